@@ -108,10 +108,11 @@ public final class ShapeKeeper {
             throw new IllegalArgumentException("no such object");
         }
         int holder = nearestWith(object, name);
-        if (holder == NONE) {
+        int place = ownPlace(holder, name);
+        if (place == NONE) {
             throw new IndexOutOfBoundsException("the property is nowhere");
         }
-        return objects.values[holder][ownPlace(holder, name)];
+        return objects.values[holder][place];
     }
 
     public int find(int object, int name) {
@@ -119,16 +120,14 @@ public final class ShapeKeeper {
             return NONE;
         }
         int shape = objects.shapes[object];
-        int place = ownPlace(object, name);
+        int place = shapes.placeOf(shape, name);
         if (place != NONE) {
             return findings.add(shape, name, NONE, place, 0L);
         }
         int first = objects.prototypes[object];
         int holder = nearestWith(first, name);
-        if (holder != NONE) {
-            place = ownPlace(holder, name);
-        }
-        return findings.add(shape, name, holder, place, objects.way(first, holder));
+        long way = objects.way(first, holder);
+        return findings.add(shape, name, holder, ownPlace(holder, name), way);
     }
 
     public boolean holds(int finding, int object) {
@@ -242,9 +241,9 @@ public final class ShapeKeeper {
         findings.breakThrough(object);
     }
 
-    /** The place of a name among an object's own; NONE if it has none. */
+    /** The place of a name among an object's own; NONE if it does not have it, or is NONE itself. */
     private int ownPlace(int object, int name) {
-        return shapes.placeOf(objects.shapes[object], name);
+        return object == NONE ? NONE : shapes.placeOf(objects.shapes[object], name);
     }
 
     /** The nearest object that has the name, from the first one upwards; NONE if there is none. */

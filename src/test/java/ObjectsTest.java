@@ -7,6 +7,7 @@ public final class ObjectsTest {
         promise2();
         promise2Full();
         promise3();
+        promise3Orders();
         promise4();
         promise5();
         promise5Loops();
@@ -103,6 +104,27 @@ public final class ObjectsTest {
             Check.due("3: read of all names", Check.read(x, 0, name), 100 + name);
         }
         Check.due("3: set(0, 12) when all are there", x.set(0, 12, 1), false);
+    }
+
+    /** The order of the names tells shapes apart, and so does each name on the way. */
+    private static void promise3Orders() {
+        ShapeKeeper x = new ShapeKeeper();
+        int[][] orders = {{0, 1}, {1, 0}, {2, 1}, {0, 1}, {2, 1}};
+        int[] shapes = {2, 4, 6, 2, 6};
+        for (int i = 0; i < orders.length; i++) {
+            x.object(NONE);
+            x.set(i, orders[i][0], 10 * i);
+            x.set(i, orders[i][1], 10 * i + 1);
+            Check.due("3: shape of object " + i, x.look(i, 0), shapes[i]);
+            Check.due("3: its first name", x.shape(shapes[i], 4), orders[i][0]);
+            Check.due("3: its second name", x.shape(shapes[i], 5), orders[i][1]);
+        }
+        Check.due("3: seven shapes", x.count(1), 7);
+        Check.due("3: two objects of [2 1]", x.shape(6, 2), 2);
+        x.object(0);
+        x.set(5, 0, 1);
+        x.set(5, 1, 1);
+        Check.due("3: the same names below a prototype are another shape", x.look(5, 0), 9);
     }
 
     private static void promise4() {
