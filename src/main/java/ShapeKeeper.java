@@ -241,7 +241,7 @@ public final class ShapeKeeper {
         findings.breakThrough(object);
     }
 
-    /** The place of a name among an object's own; NONE if it does not have it, or is NONE itself. */
+    /** The place of a name among an object's own; NONE if it has it not, or there is no object. */
     private int ownPlace(int object, int name) {
         return object == NONE ? NONE : shapes.placeOf(objects.shapes[object], name);
     }

@@ -125,6 +125,16 @@ public final class ObjectsTest {
         x.set(5, 0, 1);
         x.set(5, 1, 1);
         Check.due("3: the same names below a prototype are another shape", x.look(5, 0), 9);
+
+        x = new ShapeKeeper();
+        x.object(NONE);
+        x.object(NONE);
+        x.set(0, 2, 0);
+        x.set(1, 0, 0);
+        x.set(1, 1, 0);
+        x.set(0, 1, 0);
+        Check.due("3: [2 1] is not [0 1], which was there before it", x.look(0, 0), 4);
+        Check.due("3: [2 1] came out of [2]", x.shape(4, 3), 1);
     }
 
     private static void promise4() {
