@@ -6,13 +6,25 @@ final class Check {
     static final int INDEX = -1_000_003;
 
     private static int wrong = 0;
+    private static String at = "";
 
     private Check() {}
 
+    /** What stands in front of each wrong answer from now on. */
+    static void at(String where) {
+        at = where;
+    }
+
     static void due(String call, int got, int want) {
         if (got != want) {
+            due(call, show(got), show(want));
+        }
+    }
+
+    static void due(String call, String got, String want) {
+        if (!got.equals(want)) {
             wrong++;
-            System.out.println(call + " answered " + show(got) + ", due is " + show(want));
+            System.out.println(at + call + " answered " + got + ", due is " + want);
         }
     }
 
