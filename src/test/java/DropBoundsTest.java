@@ -33,6 +33,21 @@ public final class DropBoundsTest {
         }
     }
 
+    /** Terms: "by its names (those that are left) one by one, in order": theirs, not the numbers'. */
+    static void thoseThatAreLeftKeepTheirOrder() {
+        Run x = Runs.flat(1);
+        for (int name : new int[] {9, 4, 11, 0, 7}) {
+            x.set(0, name, 100 + name);
+        }
+        x.due(x.drop(0, 4), 1);
+        x.shapes(x.look(0, 0), NONE, 4, 1, 7, 9, 11, 0, 7, NONE);
+        x.due(x.drop(0, 9), 1);
+        x.shapes(x.look(0, 0), NONE, 3, 1, 10, 11, 0, 7, NONE);
+        x.due(x.read(0, 11), 111);
+        x.due(x.read(0, 0), 100);
+        x.due(x.read(0, 7), 107);
+    }
+
     /** "A property goes: true": the only one; nothing is left then. */
     static void theOnlyOne() {
         Run x = Runs.chain(2);
