@@ -184,6 +184,41 @@ public final class TermsBoundsTest {
         x.due(x.count(1), 5);
     }
 
+    /** "An object's shape has its prototype and its names, in order": whichever call came last. */
+    static void theShapeHasPrototypeAndNames() {
+        Run x = Runs.flat(3);
+        x.set(0, 6, 0);
+        x.set(0, 2, 0);
+        x.set(0, 9, 0);
+        x.shapes(x.look(0, 0), NONE, 3, 1, 2, 6, 2, 9, NONE);
+        x.turn(0, 2);
+        // 4 is the EMPTY one of prototype 2, 5 [6], 6 [6 2], 7 [6 2 9]
+        x.shapes(x.look(0, 0), 2, 3, 1, 6, 6, 2, 9, NONE);
+        x.drop(0, 2);
+        // 8 [6 9], out of 5
+        x.shapes(x.look(0, 0), 2, 2, 1, 5, 6, 9, NONE);
+        x.turn(0, 1);
+        // 9 is the EMPTY one of prototype 1, 10 [6], 11 [6 9]
+        x.shapes(x.look(0, 0), 1, 2, 1, 10, 6, 9, NONE);
+        x.looks(0, 11, 1, 2, 6, 1, 0);
+    }
+
+    /** "set of a new name: that with the name more": out of its own shape, of its own prototype. */
+    static void aNewNameGoesOnFromTheShapeThatItHas() {
+        Run x = Runs.chain(2);
+        x.set(0, 3, 0);
+        x.set(1, 3, 0);
+        // 1 is the EMPTY one of prototype 0; now [3] of none, [3] of prototype 0
+        x.shapes(2, NONE, 1, 1, 0, 3, NONE);
+        x.shapes(3, 0, 1, 1, 1, 3, NONE);
+        x.set(1, 5, 0);
+        x.due(x.look(1, 0), 4);
+        x.shapes(4, 0, 2, 1, 3, 3, 5, NONE);
+        x.due(x.set(1, 3, 7), 1);
+        x.due(x.look(1, 0), 4);
+        x.due(x.count(1), 5);
+    }
+
     /** "two shapes may have the same names in another order". */
     static void theOrderTellsShapesApart() {
         Run x = Runs.flat(3);
